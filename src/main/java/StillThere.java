@@ -19,7 +19,9 @@ public final class StillThere {
 
     private final Text text;
     private final World now;
+    // All that is asked ahead is played in this one, so that no call has to make a world.
     private final World tried;
+    // How all was ahead of each act: to undo one is to go back there.
     private final World[] beforeActs;
     private int actCount;
     private final World[] slots;
@@ -942,7 +944,7 @@ public final class StillThere {
                 } else if (sign != 'd' && sign != 'w') {
                     world.run(sign - '0');
                 }
-                event = event == 0 && (sign == 'd' || sign == 'w') ? sign : 0;
+                event = sign == 'd' || sign == 'w' ? sign : 0;
             }
         }
     }

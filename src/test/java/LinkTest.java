@@ -13,6 +13,7 @@ public final class LinkTest {
     wipe();
     fault();
     link();
+    linkFromAnything();
     linkRefused();
     end();
     moods();
@@ -148,13 +149,30 @@ public final class LinkTest {
 
     x.seed(77);
     x.see(3, 0, 2);
+    x.keep(0);
     x.keep(1);
     x.pass(1);
     due.is("5: link() anew", x.link(), 567);
     due.is("5: the row is empty", x.undo(), StillThere.STATE);
-    due.is("5: what was kept is gone", x.again(1), StillThere.STATE);
+    due.is("5: what was kept in 0 is gone", x.again(0), StillThere.STATE);
+    due.is("5: what was kept in 1 is gone", x.again(1), StillThere.STATE);
     due.is("5: SEEN stays", x.count(5), 1);
     due.is("5: THE SEED stays", x.seed(0), 77);
+  }
+
+  private static void linkFromAnything() {
+    StillThere x = Due.linked("B345212d0999");
+    x.tell(0, 0, 9);
+    x.poll(1);
+    x.demand(1);
+    x.pass(2);
+    x.turn(0);
+    for (String text : new String[] {"B111111", "B111111992", "B213422d1w09w0"}) {
+      Due.write(x, text).link();
+      due.same("5: " + text + " behind another one", Due.told(x), Due.told(Due.linked(text)));
+      x.tell(1, 1, 9);
+      x.turn(1);
+    }
   }
 
   private static void linkRefused() {
@@ -247,6 +265,8 @@ public final class LinkTest {
     x = Due.linked("B9919919991");
     due.is("6: NOTICED, the letter on its way is not heard", x.end(0, 12), 1);
     due.is("6: ENDURED, MULT 1", x.end(0, 13), 0);
+    x = Due.linked("B9929929991");
+    due.is("6: ENDURED, MULT 2", x.end(0, 13), 1);
     x = Due.linked("B9959959991");
     due.is("6: NOTICED, MULT 5", x.end(1, 12), 37);
     due.is("6: ENDURED, MULT 5", x.end(1, 13), 4);
@@ -264,6 +284,9 @@ public final class LinkTest {
     // What is asked is the most r, though a lesser one may not be endured (1 falls, 2 does not).
     x = Due.linked("B8449238d1");
     due.is("6: ENDURED is the most", x.end(0, 13), 2);
+    // With these it falls at the 61st tick, which is not looked at any more.
+    due.is("6: ENDURED for 60 ticks", Due.linked("B255625d05").end(1, 13), 5);
+    due.is("6: ENDURED for 60 ticks", Due.linked("B7329644d1").end(0, 13), 3);
     x = Due.linked("B1952446w1");
     due.is("6: ENDURED is NONE if it falls with r 0", x.end(1, 13), StillThere.NONE);
   }
