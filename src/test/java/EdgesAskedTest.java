@@ -61,6 +61,32 @@ public final class EdgesAskedTest {
     }
     edge.leaves("luck(6,5,true)", x -> x.luck(6, 5, true));
     edge.leaves("luck(6,10,false)", x -> x.luck(6, 10, false));
+    nothingIsLeftBehind();
+  }
+
+  /** What one call asked ahead, LETTERS that are lost above all, is gone when another one is asked. */
+  private static void nothingIsLeftBehind() {
+    // Both are STILL: no LETTER comes that could be lost, until one POLLS.
+    StillThere x = Due.linked("B115115d0d1992");
+    edge.is("ENDURED", x.end(0, 13), 5);
+    edge.is("ENDURED by the other one", x.end(1, 13), 5);
+    x.poll(0);
+    edge.is("the answer comes behind ENDURED", x.ahead(20, 0), 2);
+    x = Due.linked("B115115d0d1992");
+    edge.is("luck(6,10)", x.luck(6, 10, true), 1);
+    x.poll(0);
+    edge.is("the answer comes behind LUCK", x.ahead(20, 0), 2);
+    // The LETTERS of 19 are the last ones for long; END 1 would FALL at 56 without END 0's.
+    x = Due.linked("B115115d0d196");
+    edge.is("luck(1,10)", x.luck(1, 10, true), 1);
+    x.pass(4);
+    edge.is("the LETTER is on its WAY", x.way(0, 1), 1);
+    edge.is("it is HEARD behind LUCK", x.ahead(40, 1), 2);
+    x = Due.passed(20);
+    edge.is("NOTICED", x.end(0, 12), 1);
+    edge.is("the WAYS are OPEN ahead", x.ahead(1, 0), 2);
+    edge.is("judge(2,301101)", x.judge(2, 301101), NONE);
+    edge.is("the WAYS are OPEN ahead, behind JUDGED", x.ahead(1, 0), 2);
   }
 
   private static void aheadIsBehindTicks() {
@@ -77,7 +103,8 @@ public final class EdgesAskedTest {
   }
 
   private static void noticed() {
-    edge.sentence("NOTICED by an END: both WAYS being CUT from now on, the least k (0 to 99) so that AHEAD k it is DOWN; NONE.");
+    edge.sentence("NOTICED by an END: both WAYS being CUT from now on, the least k (0 to 99) so that AHEAD k it is "
+        + "DOWN; NONE.");
     edge.is("DOWN already", new StillThere().end(0, 12), 0);
     edge.is("COMING at 2, LIMIT 9", Due.passed(2).end(0, 12), 9);
     edge.is("COMING at 10, SILENCE 8", Due.passed(10).end(0, 12), 1);
@@ -101,7 +128,8 @@ public final class EdgesAskedTest {
   }
 
   private static void endured() {
-    edge.sentence("ENDURED by an END: the most r (0 to 5) such that, the next r LETTERS that come to it being lost (their WAY as it is besides), it is not DOWN AHEAD 1, 2, .. 60 at any time;");
+    edge.sentence("ENDURED by an END: the most r (0 to 5) such that, the next r LETTERS that come to it being lost "
+        + "(their WAY as it is besides), it is not DOWN AHEAD 1, 2, .. 60 at any time;");
     for (int mult = 1; mult <= 5; mult++) {
       for (int end = 0; end < 2; end++) {
         // A LETTER each 9 ticks, LIMIT 9 times MULT.
@@ -157,7 +185,9 @@ public final class EdgesAskedTest {
   }
 
   private static void lostOnesAreSent() {
-    edge.sentence("LOST ones (ENDURED, LUCK) are SENT, and are taken off the WAY unHEARD. In ENDURED \"the next r LETTERS that come to it\" are those that are taken off the WAY to it from now on while that is OPEN");
+    edge.sentence("LOST ones (ENDURED, LUCK) are SENT, and are taken off the WAY unHEARD. In ENDURED \"the next r "
+        + "LETTERS that come to it\" are those that are taken off the WAY to it from now on while that is "
+        + "OPEN");
     // The LETTER that is on its WAY at 19 tells UP. END 1 is STILL from 20 on: no other one comes to END 0.
     StillThere x = Due.linked("B115115d0d1991");
     edge.is("the one that is on its WAY now counts", x.end(0, 13), 0);
@@ -194,6 +224,7 @@ public final class EdgesAskedTest {
     judged(x, 2, 502111, 0);
     for (int n : new int[] {0, 5, -1, FAR[0], FAR[1]}) {
       edge.refused("judge(" + n + ",101)", OUTSIDE, y -> y.judge(n, 101));
+      edge.refused("judge(" + n + ",0)", OUTSIDE, y -> y.judge(n, 0));
     }
     edge.refused("judge(5,..)", OUTSIDE, y -> y.judge(5, 101101101101101L));
   }
@@ -264,7 +295,8 @@ public final class EdgesAskedTest {
   }
 
   private static void judgedAsked() {
-    edge.sentence("5, an END, v: its MOOD is v; 6, an END, 1 or 0: it POLLS, or not; 7, an END, v: its PACE is v (0 to 9)): the place of the first that can not be (or is not so); NONE: none.");
+    edge.sentence("5, an END, v: its MOOD is v; 6, an END, 1 or 0: it POLLS, or not; 7, an END, v: its PACE is v (0 "
+        + "to 9)): the place of the first that can not be (or is not so); NONE: none.");
     StillThere[] moods = {new StillThere(), Due.passed(2), Due.passed(20)};
     for (int mood = 0; mood < 3; mood++) {
       for (int end = 0; end < 10; end++) {
@@ -421,7 +453,8 @@ public final class EdgesAskedTest {
   }
 
   private static void end() {
-    edge.sentence("SILENCE (8), NEXT (9), PACE (10), LIMIT (11), NOTICED (12; NONE), ENDURED (13; NONE). UNKNOWN; OUTSIDE.");
+    edge.sentence("SILENCE (8), NEXT (9), PACE (10), LIMIT (11), NOTICED (12; NONE), ENDURED (13; NONE). UNKNOWN; "
+        + "OUTSIDE.");
     for (int what : new int[] {-1, 14, FAR[0], FAR[1]}) {
       edge.refused("end(0," + what + ")", OUTSIDE, x -> x.end(0, what));
       edge.refused("end(1," + what + ")", OUTSIDE, x -> x.end(1, what));
@@ -441,7 +474,8 @@ public final class EdgesAskedTest {
   }
 
   private static void known() {
-    edge.sentence("What an END KNOWS: MOOD (what = 0), TX (1), RX (2), MULT (3), 1 if DEMAND, 0 (4). UNKNOWN; OUTSIDE.");
+    edge.sentence("What an END KNOWS: MOOD (what = 0), TX (1), RX (2), MULT (3), 1 if DEMAND, 0 (4). UNKNOWN; "
+        + "OUTSIDE.");
     for (int what : new int[] {-1, 5, FAR[0], FAR[1]}) {
       edge.refused("known(0," + what + ")", OUTSIDE, x -> x.known(0, what));
       edge.refused("known(1," + what + ")", OUTSIDE, x -> x.known(1, what));

@@ -60,7 +60,8 @@ public final class EdgesOfChancesTest {
   }
 
   private static void fractions() {
-    edge.sentence("FRACTIONS are told above (upper = true; less than 0, if they are), below, in least terms (0 is 0 above, 1 below); refusals of them are told likewise.");
+    edge.sentence("FRACTIONS are told above (upper = true; less than 0, if they are), below, in least terms (0 is 0 "
+        + "above, 1 below); refusals of them are told likewise.");
     shared(new StillThere(), 0, 0, 1);
     shared(Due.linked("B211121"), 0, 21, 2);
     shared(Due.linked("B311111"), 0, 28, 1);
@@ -78,7 +79,8 @@ public final class EdgesOfChancesTest {
   }
 
   private static void shareOfEach() {
-    edge.sentence("SHARE of a SETTING (0: TX of END 0, 1: RX of END 0, 2: TX, 3: RX of END 1): each is 1 (USED one, too), if it has not come, else as it is;");
+    edge.sentence("SHARE of a SETTING (0: TX of END 0, 1: RX of END 0, 2: TX, 3: RX of END 1): each is 1 (USED one, "
+        + "too), if it has not come, else as it is;");
     // Only one of them is not 1: letters of one END each third tick, 16 instead of 44.
     String[] links = {"B311111", "B131111", "B111311", "B111131"};
     for (int come = 0; come < 4; come++) {
@@ -100,7 +102,8 @@ public final class EdgesOfChancesTest {
   }
 
   private static void shareInEachOrder() {
-    edge.sentence("if SETTINGS come one by one, in each order as likely: by how many fewer LETTERS are SENT in the next 60 TICKS in the mean when it has come: a FRACTION.");
+    edge.sentence("if SETTINGS come one by one, in each order as likely: by how many fewer LETTERS are SENT in the "
+        + "next 60 TICKS in the mean when it has come: a FRACTION.");
     // PACE of END 0 is 2 by either: 21 fewer by the first of the two that comes.
     StillThere x = Due.linked("B211121");
     shared(x, 0, 21, 2);
@@ -122,14 +125,15 @@ public final class EdgesOfChancesTest {
 
   private static void shareForSixtyTicks() {
     edge.sentence("LETTERS are SENT in the next 60 TICKS");
-    // At each tick from 19 on, or at 19, 28, .., 55 (64 would be the next): 44 or 7 until 60; 43 or 7 until 59, 45 or 7 until 61.
+    // At 1, 10 and at each tick from 19 on, or at 19, 28, .., 55 (64 would be the next): 44 or 7 until 60.
     shared(Due.linked("B911111"), 0, 37, 1);
     // At 1, 10, and 19, 27, 35, 43, 51, 59: 44 or 8.
     shared(Due.linked("B811111"), 0, 36, 1);
   }
 
   private static void luckOfNone() {
-    edge.sentence("LUCK: of the next r LETTERS (0 to 6) that are SENT each is lost by x tenths (0 to 10), by itself: that both ENDS are UP AHEAD 40: a FRACTION.");
+    edge.sentence("LUCK: of the next r LETTERS (0 to 6) that are SENT each is lost by x tenths (0 to 10), by itself: "
+        + "that both ENDS are UP AHEAD 40: a FRACTION.");
     for (int x = 0; x <= 10; x += 5) {
       lucky(Due.passed(20), 0, x, 1, 1);
       lucky(Due.linked("B111111w0"), 0, x, 0, 1);
@@ -188,11 +192,14 @@ public final class EdgesOfChancesTest {
   }
 
   private static void luckInOrder() {
-    edge.sentence("in LUCK those that are SENT from the next TICK on, END 0's ahead of END 1's in one TICK (one that is on a WAY now is none of them).");
+    edge.sentence("in LUCK those that are SENT from the next TICK on, END 0's ahead of END 1's in one TICK (one that "
+        + "is on a WAY now is none of them).");
     // The LETTERS that are SENT at 19 tell UP; when they are HEARD, both are STILL, and none is SENT any more.
     StillThere x = Due.linked("B115115d0d1991");
     edge.is("LETTERS are on both WAYS", x.way(0, 1) + x.way(1, 1), 2);
-    for (int r = 0; r <= 6; r++) lucky(x, r, 10, 1, 1);
+    for (int r = 0; r <= 6; r++) {
+      for (int tenths = 0; tenths <= 10; tenths++) lucky(x, r, tenths, 1, 1);
+    }
     // At 18 they are the next two. If one of them alone is lost, the END that did not hear it FALLS 45 ticks behind 11.
     x = Due.linked("B115115d0d199");
     lucky(x, 0, 10, 1, 1);
@@ -212,6 +219,11 @@ public final class EdgesOfChancesTest {
     lucky(x, 2, 3, 1, 1);
     lucky(x, 3, 3, 91, 100);
     lucky(x, 3, 10, 0, 1);
+    // What END 0 SENDS on a CUT WAY is one of them, though END 1 would not hear it: the second one is END 1's first.
+    x = Due.linked("B995991992w0");
+    lucky(x, 1, 10, 1, 1);
+    lucky(x, 2, 10, 0, 1);
+    lucky(x, 2, 4, 3, 5);
   }
 
   private static long becomes(long x) {
@@ -224,7 +236,8 @@ public final class EdgesOfChancesTest {
   }
 
   private static void seedWraps() {
-    edge.sentence("ahead of each x (THE SEED, a long; 0 at first) becomes x * 6364136223846793005L + 1442695040888963407L (64 bits, wrapping)");
+    edge.sentence("ahead of each x (THE SEED, a long; 0 at first) becomes x * 6364136223846793005L + "
+        + "1442695040888963407L (64 bits, wrapping)");
     StillThere x = new StillThere();
     x.drawn(1);
     edge.is("0 at first", x.seed(1), 1442695040888963407L);
@@ -345,10 +358,13 @@ public final class EdgesOfChancesTest {
   }
 
   private static void kept() {
-    edge.sentence("keep ENDS with all that they have, WAYS, LETTERS on them, THE CLOCK, SENT, UPTIME (THE ROW of ACTS is empty when one goes on).");
+    edge.sentence("keep ENDS with all that they have, WAYS, LETTERS on them, THE CLOCK, SENT, UPTIME (THE ROW of "
+        + "ACTS is empty when one goes on).");
     for (int slot = 0; slot < 2; slot++) {
       int s = slot;
       edge.same("gone on from " + s, () -> elsewhereAndBack(s), () -> withoutRow(s));
+      String now = Due.told(Histories.polling());
+      edge.is("as it was when kept in " + s, Due.told(elsewhereAndBack(s)).equals(now) ? 1 : 0, 1);
     }
     StillThere x = Histories.full();
     x.keep(0);
@@ -382,16 +398,9 @@ public final class EdgesOfChancesTest {
 
   private static StillThere withoutRow(int slot) {
     StillThere x = Histories.polling();
-    for (int acts = x.count(4); acts > 0; acts--) x.undo();
-    // The same acts as Histories.polling does, the row being emptied where they end.
-    x.tell(0, 0, 9);
-    x.tell(1, 1, 1);
-    x.poll(0);
-    x.pass(2);
-    x.demand(1);
     x.keep(slot);
     x.keep(1 - slot);
-    x.again(1 - slot);
+    x.again(slot);
     return x;
   }
 

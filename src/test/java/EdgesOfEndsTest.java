@@ -39,6 +39,7 @@ public final class EdgesOfEndsTest {
     turned();
     polled();
     heardInTheNextTick();
+    oneLetterOnAWay();
     demandAsLastHeard();
     fallInHearing();
     edge.end();
@@ -129,7 +130,8 @@ public final class EdgesOfEndsTest {
   }
 
   private static void atFirst() {
-    edge.sentence("At first SETTINGS are 1, USED ones as SETTINGS are, it is DOWN, SILENCE and NEXT are 0, it KNOWS: DOWN, 1, 1, 1, no DEMAND.");
+    edge.sentence("At first SETTINGS are 1, USED ones as SETTINGS are, it is DOWN, SILENCE and NEXT are 0, it KNOWS: "
+        + "DOWN, 1, 1, 1, no DEMAND.");
     int[] ends = {1, 1, 1, 1, 1, 0, 0, 0, 0, 0};
     int[] knows = {0, 1, 1, 1, 0};
     StillThere x = new StillThere();
@@ -143,7 +145,8 @@ public final class EdgesOfEndsTest {
   }
 
   private static void waysLead() {
-    edge.sentence("WAY 0 leads from END 0 to END 1, WAY 1 back; each is OPEN (at first) or CUT, and has a LETTER on it, or none.");
+    edge.sentence("WAY 0 leads from END 0 to END 1, WAY 1 back; each is OPEN (at first) or CUT, and has a LETTER on "
+        + "it, or none.");
     for (int way = 0; way < 2; way++) {
       StillThere x = new StillThere();
       edge.is("OPEN at first", x.way(way, 0), 1);
@@ -206,7 +209,8 @@ public final class EdgesOfEndsTest {
   }
 
   private static void limit() {
-    edge.sentence("LIMIT of an END: the MULT that it KNOWS, times the greatest of USED RX, the TX that it KNOWS, and 9 (that only if it is not BOTH UP).");
+    edge.sentence("LIMIT of an END: the MULT that it KNOWS, times the greatest of USED RX, the TX that it KNOWS, and "
+        + "9 (that only if it is not BOTH UP).");
     int[][] rows = {{1, 1, 1, 1}, {4, 5, 1, 5}, {5, 4, 1, 5}, {4, 4, 5, 20}, {9, 9, 5, 45}, {1, 8, 2, 16}, {8, 1, 2, 16}};
     for (int[] row : rows) {
       StillThere x = Due.linked("B1" + row[0] + "1" + row[1] + "1" + row[2]);
@@ -258,7 +262,8 @@ public final class EdgesOfEndsTest {
   }
 
   private static void letterTells() {
-    edge.sentence("A LETTER tells MOOD, TX, RX, MULT, DEMAND as they are, whether its END POLLS, whether it is an answer.");
+    edge.sentence("A LETTER tells MOOD, TX, RX, MULT, DEMAND as they are, whether its END POLLS, whether it is an "
+        + "answer.");
     StillThere x = Due.passed(20);
     x.tell(0, 0, 7);
     x.tell(0, 1, 6);
@@ -282,7 +287,8 @@ public final class EdgesOfEndsTest {
   }
 
   private static void letterIsTakenOff() {
-    edge.sentence("if a LETTER is on the WAY to it, that is on it no more; if that WAY is OPEN, it is HEARD: SILENCE is 0; what it KNOWS is as the LETTER tells");
+    edge.sentence("if a LETTER is on the WAY to it, that is on it no more; if that WAY is OPEN, it is HEARD: SILENCE "
+        + "is 0; what it KNOWS is as the LETTER tells");
     for (int way = 0; way < 2; way++) {
       int to = 1 - way;
       StillThere x = Due.linked("B235325d0d11");
@@ -321,7 +327,8 @@ public final class EdgesOfEndsTest {
     x.pass(1);
     edge.is("an UP END hears DOWN", x.end(0, 5), 0);
 
-    edge.sentence("COMING: a DOWN or COMING END is UP then, an UP one stays; UP: a COMING one is UP then, others stay.");
+    edge.sentence("COMING: a DOWN or COMING END is UP then, an UP one stays; UP: a COMING one is UP then, others "
+        + "stay.");
     edge.is("a COMING END hears COMING", Due.passed(11).end(0, 5), 2);
     // WAY 0 is CUT until 3: END 0 is COMING at 2, END 1 hears of it at 11.
     x = Due.linked("B111111w03w07");
@@ -405,7 +412,8 @@ public final class EdgesOfEndsTest {
   }
 
   private static void fallsAtTheLimit() {
-    edge.sentence("if it is not DOWN, does not TRUST, and SILENCE is LIMIT or more, it FALLS, and KNOWS the other one as DOWN.");
+    edge.sentence("if it is not DOWN, does not TRUST, and SILENCE is LIMIT or more, it FALLS, and KNOWS the other "
+        + "one as DOWN.");
     for (int mult = 1; mult <= 5; mult++) {
       StillThere x = Due.linked("B21" + mult + "31" + mult + "d1992");
       x.turn(0);
@@ -461,7 +469,8 @@ public final class EdgesOfEndsTest {
   }
 
   private static void sends() {
-    edge.sentence("If it OWES, or NEXT is 0 and it is not STILL, it SENDS: a LETTER is on the WAY from it (an answer, if it OWES), it OWES no more, NEXT is PACE, SENT is 1 more.");
+    edge.sentence("If it OWES, or NEXT is 0 and it is not STILL, it SENDS: a LETTER is on the WAY from it (an "
+        + "answer, if it OWES), it OWES no more, NEXT is PACE, SENT is 1 more.");
     StillThere x = new StillThere();
     edge.is("SENT at 9", x.ahead(9, 2), 2);
     edge.is("NEXT is 0 at 10", x.ahead(10, 2), 4);
@@ -523,7 +532,8 @@ public final class EdgesOfEndsTest {
   }
 
   private static void toldWhenUp() {
-    edge.sentence("TX, RX: if it is UP, it POLLS then, USED TX is the lesser of what was USED and what is told, USED RX the greater likewise;");
+    edge.sentence("TX, RX: if it is UP, it POLLS then, USED TX is the lesser of what was USED and what is told, USED "
+        + "RX the greater likewise;");
     for (int what = 0; what < 2; what++) {
       for (int v = 1; v <= 9; v++) {
         StillThere x = Due.linked("B551551992");
@@ -573,7 +583,8 @@ public final class EdgesOfEndsTest {
   }
 
   private static void turned() {
-    edge.sentence("TURNED: an END wants DEMAND, or does no more; or a WAY is CUT, or OPEN again (a LETTER that is on it stays).");
+    edge.sentence("TURNED: an END wants DEMAND, or does no more; or a WAY is CUT, or OPEN again (a LETTER that is on "
+        + "it stays).");
     for (int i = 0; i < 2; i++) {
       StillThere x = Due.passed(10);
       edge.is("demand(" + i + ")", x.demand(i), 1);
@@ -622,6 +633,25 @@ public final class EdgesOfEndsTest {
     edge.is("SENT on an OPEN one that is CUT then", x.end(1, 5), 0);
     x.pass(1);
     edge.is("it does not come later", x.end(1, 8), 3);
+  }
+
+  private static void oneLetterOnAWay() {
+    edge.sentence("An END that SENDS with a LETTER of its own still on the WAY can not be: it was taken off in (a).");
+    // WAY 0 is CUT: what END 0 SENDS at 21 is taken off at 22, and what it SENDS then is HEARD at 23.
+    StillThere x = Due.linked("B115115992");
+    x.turn(0);
+    x.tell(0, 2, 4);
+    x.pass(1);
+    edge.is("a LETTER at 21", x.way(0, 1), 1);
+    x.tell(0, 2, 3);
+    x.pass(1);
+    edge.is("a LETTER at 22", x.way(0, 1), 1);
+    edge.is("nothing was HEARD", x.known(1, 3), 5);
+    x.turn(0);
+    x.pass(1);
+    edge.is("the one of 22 is HEARD", x.known(1, 3), 3);
+    edge.is("and none behind it", x.end(1, 8), 0);
+    edge.is("SENT", x.count(2), 8 + 6);
   }
 
   private static void demandAsLastHeard() {

@@ -81,7 +81,8 @@ public final class EdgesOfTextTest {
   }
 
   private static void events() {
-    edge.sentence("EVENTS, none or more: a figure 1 to 9 (so many TICKS); d and an END (0, 1) (DEMAND TURNED); w and a WAY (0, 1) (TURNED).");
+    edge.sentence("EVENTS, none or more: a figure 1 to 9 (so many TICKS); d and an END (0, 1) (DEMAND TURNED); w and "
+        + "a WAY (0, 1) (TURNED).");
     edge.is("none", Due.linked(HEAD).count(1), 0);
     faultOf(HEAD + "0", 7);
     faultOf(HEAD + "1", NONE);
