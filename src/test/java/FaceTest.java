@@ -24,9 +24,11 @@ public final class FaceTest {
 
   public static void main(String[] args) throws Exception {
     methods();
+    documentsFace();
     constantsAndFields();
     classes();
     source();
+    objectsMade();
     due.end();
   }
 
@@ -53,6 +55,20 @@ public final class FaceTest {
     due.is("constructors", makers.length, 1);
     due.is("of no parameter", makers[0].getParameterCount(), 0);
     due.is("public", Modifier.isPublic(makers[0].getModifiers()) ? 1 : 0, 1);
+  }
+
+  /** That what is looked for above is what the document's face says. */
+  private static void documentsFace() throws Exception {
+    String document = Files.readString(Path.of("../shared/DOC.md"));
+    Matcher call = Pattern.compile("(?m)^ +public (int|long) (\\w+)\\((.*)\\);$").matcher(document);
+    Set<String> face = new TreeSet<>();
+    while (call.find()) {
+      String types = call.group(3).replaceAll(" \\w+(, |$)", ",").replaceAll(",$", "");
+      face.add(call.group(1) + " " + call.group(2) + "(" + types + ")");
+    }
+    due.same("the document's face", face.toString(), new TreeSet<>(List.of(FACE)).toString());
+    String constants = "public static final int UNKNOWN = -1, OUTSIDE = -2, STATE = -3, FULL = -4, NONE = -9;";
+    due.is("the document's constants", document.contains(constants) ? 1 : 0, 1);
   }
 
   private static void constantsAndFields() throws Exception {
@@ -92,9 +108,17 @@ public final class FaceTest {
     return all;
   }
 
+  private static String text() throws Exception {
+    return Files.readString(Path.of("src/main/java/StillThere.java"));
+  }
+
+  private static String code() throws Exception {
+    return text().replaceAll("(?s)/\\*.*?\\*/", "").replaceAll("//[^\n]*", "");
+  }
+
   private static void source() throws Exception {
-    String text = Files.readString(Path.of("src/main/java/StillThere.java"));
-    String code = text.replaceAll("(?s)/\\*.*?\\*/", "").replaceAll("//[^\n]*", "");
+    String text = text();
+    String code = code();
     String[] words = {"import", "package", "throw", "throws", "try", "catch", "finally", "synchronized", "assert",
         "System", "Object", "protected", "Random", "Thread", "var", "double", "float"};
     for (String word : words) {
@@ -111,5 +135,16 @@ public final class FaceTest {
     }
     due.is("methods were found", bodies > 60 ? 1 : 0, 1);
     due.is("signs of 1 to 127 alone", text.chars().allMatch(c -> c > 0 && c < 128) ? 1 : 0, 1);
+  }
+
+  /** All calls of a run live in one room: objects are made with the object, none by a call. */
+  private static void objectsMade() throws Exception {
+    String code = code();
+    int from = code.indexOf("public StillThere() {");
+    String calls = code.substring(0, from) + code.substring(code.indexOf("\n    }\n", from));
+    for (String line : calls.split("\n")) {
+      if (!Pattern.compile("\\bnew\\b").matcher(line).find()) continue;
+      due.is("made with a field: " + line.strip(), line.strip().startsWith("final ") ? 1 : 0, 1);
+    }
   }
 }
