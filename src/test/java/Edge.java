@@ -20,11 +20,11 @@ final class Edge {
     histories.forEach((history, made) -> wholes.put(history, Whole.of(made)));
   }
 
-  private static String plain(String text) {
+  static String plain(String text) {
     return text.replaceAll("```(text)?", " ").replaceAll("\\s+", " ");
   }
 
-  private static String document() {
+  static String document() {
     try {
       return plain(Files.readString(Path.of("../shared/DOC.md")));
     } catch (IOException e) {

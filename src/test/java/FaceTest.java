@@ -25,6 +25,7 @@ public final class FaceTest {
   public static void main(String[] args) throws Exception {
     methods();
     documentsFace();
+    headings();
     constantsAndFields();
     classes();
     source();
@@ -69,6 +70,26 @@ public final class FaceTest {
     due.same("the document's face", face.toString(), new TreeSet<>(List.of(FACE)).toString());
     String constants = "public static final int UNKNOWN = -1, OUTSIDE = -2, STATE = -3, FULL = -4, NONE = -9;";
     due.is("the document's constants", document.contains(constants) ? 1 : 0, 1);
+  }
+
+  /** What the interface says ahead of some calls stands ahead of just those in the class. */
+  private static void headings() throws Exception {
+    String document = Files.readString(Path.of("../shared/DOC.md"));
+    Matcher said = Pattern.compile("Ahead of the calls (.*) the interface says: (---- .*)\\.").matcher(document);
+    int found = 0;
+    while (said.find()) {
+      found++;
+      int from = text().indexOf("    // " + said.group(2) + "\n");
+      due.is("it stands in the class: " + said.group(2), from >= 0 ? 1 : 0, 1);
+      if (from < 0) continue;
+      int next = text().indexOf("    // ----", from + 1);
+      String section = text().substring(from, next < 0 ? text().length() : next);
+      Matcher call = Pattern.compile("(?m)^    public \\w+ (\\w+)\\(").matcher(section);
+      List<String> calls = new ArrayList<>();
+      while (call.find()) calls.add("`" + call.group(1) + "`");
+      due.same("the calls behind " + said.group(2), String.join(", ", calls), said.group(1));
+    }
+    due.is("headings", found, 6);
   }
 
   private static void constantsAndFields() throws Exception {
